@@ -163,6 +163,13 @@ public final class PromisesTest {
         x.piece(0, 0, 0);
         x.puts(0, 0);
         due("used before", tell(x, "p000;"), -2000);
+        x.piece(5, 6, 78);
+        due("there before", tell(x, "p111;"), 1);
+        due("KIND", x.cellOf(11, 0), 5);
+        due("FIGURE", x.cellOf(11, 1), 6);
+        due("AGE", x.cellOf(11, 2), 78);
+        due("none is lost", x.count(0), 2);
+        due("both used", x.count(5), 0);
         due("96 letters, one lacks", tell(new PatchesSameAge(), "y01;".repeat(23) + "c000"), -1096);
     }
 
@@ -395,11 +402,17 @@ public final class PromisesTest {
         due("all(61, 3)", x.all(61, 3), -6);
         due("all(0, 3)", x.all(0, 3), -2);
         due("all(0, -1)", x.all(0, -1), -2);
+        due("all(60, 0)", x.all(60, 0), 12);
         due("nothing changed", x.count(1) + x.count(4), 0);
     }
 
     private static void holesAndLasts() {
         PatchesSameAge x = oneOld();
+        x.cell(3, 0, 9, 0);
+        due("LAST WHOLE", x.holes(2), 3);
+        x.cell(8, 5, 0, 0);
+        due("LAST WHOLE: never is latest", x.holes(2), 8);
+        x = oneOld();
         due("holes(0)", x.holes(0), 2);
         due("holes(1)", x.holes(1), 5);
         due("holes(2)", x.holes(2), 0);
@@ -424,7 +437,7 @@ public final class PromisesTest {
         y.cell(7, 0, 9, 0);
         due("of several the least", y.holes(1), 6);
         due("the first", y.holes(0), 19);
-        due("YEAR 60 counts", told("c00115000;c05053900;w0500;").lasts(5), 47);
+        due("LINEN holds 24 and wears every other YEAR", told("c00115000;c05053900;w0500;").lasts(5), 47);
     }
 
     private static void fits() {
@@ -462,6 +475,7 @@ public final class PromisesTest {
         due("longest", x.bestPiece(0), 4);
         x.puts(4, 7);
         due("of several the least", x.bestPiece(11), 1);
+        due("the only one", told("r0000;").bestPiece(0), 0);
         due("bestPiece(12)", x.bestPiece(12), -1);
         due("bestPiece(-1)", x.bestPiece(-1), -1);
         due("no HOLES", x.mend(), 0);
@@ -486,6 +500,8 @@ public final class PromisesTest {
         due("of several the least", x.keep(), 105);
         x.puts(1, 0);
         due("not used", x.keep(), 205);
+        PatchesSameAge z = told("r0000;w0009;");
+        due("CELL 0", z.keep(), 0);
         PatchesSameAge y = told("c00115000;r5000;");
         due("never is not later than never", y.keep(), -9);
         y.cell(8, 0, 0, 0);
@@ -536,6 +552,9 @@ public final class PromisesTest {
         due("latest, of several the least", x.when(0, 0), 29);
         due("of CORN put at once", x.when(1, 0), 0);
         due("as old as all then", x.when(2, 0), 30);
+        // LINEN wears 1 in odd YEARS; from YEAR 1 on, put behind 28 or 29, its 16th such YEAR is YEAR 61: a HOLE behind 60,
+        // put behind 30 it never is one in time
+        due("60 counts, 61 is never", told("y01;r3120;").when(0, 0), 30);
         due("when(3, 0)", x.when(3, 0), -1);
         due("when(-1, 0)", x.when(-1, 0), -1);
         due("when(0, 12)", x.when(0, 12), -1);
@@ -640,6 +659,10 @@ public final class PromisesTest {
         x.cell(0, 0, 0, 40);
         due("none is less", x.swap(), -9);
         x.cell(11, 0, 0, 40);
+        // SILK PULLS 1 for each of four beside, in a corner of two
+        due("their KINDS too", told("c05052000;").swap(), 5);
+        due("beside each other", told("c01012000;").swap(), 1);
+        due("not the first", told("c00002000;c03032000;c08082000;c10102000;").swap(), 1011);
         // two corners: 80; both beside each other at the rim: 60, first by 0 and 7
         due("of several the first", x.swap(), 7);
     }
@@ -684,6 +707,7 @@ public final class PromisesTest {
         due("oldest(0)", x.oldest(0), 3);
         due("the sixth by size", x.oldest(1), 50);
         due("oldest(2)", x.oldest(2), -2);
+        due("CELL 1", told("c01010001;").oldest(0), 1);
         due("oldest(-1)", x.oldest(-1), -2);
         // 10 and 11 are 90 apart, 2 and 3 are 79
         due("tightest(0)", x.tightest(0), 1011);
@@ -764,6 +788,7 @@ public final class PromisesTest {
         due("sumOf(0)", x.sumOf(0), 3);
         due("sumOf(1)", x.sumOf(1), 15);
         due("sumOf(2)", x.sumOf(2), 9);
+        due("all four columns", told("c04070004;c08110009;").sumOf(1), 16);
         due("sumOf(3)", x.sumOf(3), -1);
         due("sumOf(-1)", x.sumOf(-1), -1);
         x.wears(7, 9);
@@ -856,28 +881,31 @@ public final class PromisesTest {
     private static void lots() {
         PatchesSameAge x = new PatchesSameAge();
         due("all go into holes", x.lots(20, 5, 0), 240);
-        // the first DRAW from 0 is 12345 over 65536, cut: 0; a life of CORN that is worn out already
         due("lots(0, 0, 2)", x.lots(0, 0, 2), -4);
         due("lots(-1, 0, 0)", x.lots(-1, 0, 0), -4);
         due("lots(21, 0, 2)", x.lots(21, 0, 2), -6);
         due("lots(1, 0, 2)", x.lots(1, 0, 2), -2);
         due("lots(1, 0, -1)", x.lots(1, 0, -1), -2);
         due("nothing changed", x.count(1) + x.count(3) + x.count(4), 0);
-        long seed = 77;
-        int[] ages = new int[24];
-        for (int i = 0; i < 24; i++) {
-            seed = (seed * 1103515245L + 12345L) & 0xffffffffL;
-            ages[i] = (int) ((seed & 0x7fffffffL) >> 16) % 60;
-        }
+        for (int seed : new int[] {0, 1, 77, -1, 123456789, Integer.MAX_VALUE, Integer.MIN_VALUE}) twoLives(x, seed);
+    }
+
+    /** The DRAWS made here by longs; the lives lived by the program's own years(). */
+    private static void twoLives(PatchesSameAge x, int z) {
+        long seed = z;
         int wear = 0;
         for (int life = 0; life < 2; life++) {
+            int[] ages = new int[12];
+            for (int cell = 0; cell < 12; cell++) {
+                seed = (seed * 1103515245L + 12345L) & 0xffffffffL;
+                ages[cell] = (int) ((seed & 0x7fffffffL) >> 16) % 60;
+            }
             PatchesSameAge y = new PatchesSameAge();
-            ages(y, java.util.Arrays.copyOfRange(ages, 12 * life, 12 * life + 12));
+            ages(y, ages);
             y.years(20);
             wear += y.count(4);
-            if (life == 0) due("one life", x.lots(1, 77, 1), wear);
+            due("lives of seed " + z, x.lots(life + 1, z, 1), wear);
         }
-        due("two lives", x.lots(2, 77, 1), wear);
     }
 
     private static void imageAndRestore() {
@@ -899,6 +927,16 @@ public final class PromisesTest {
         due("not used", x.pieceOf(0, 3), 0);
         due("used", x.pieceOf(1, 3), 1);
         due("KIND of a PIECE", x.pieceOf(1, 0), 4);
+        due("FIGURE of a PIECE", x.pieceOf(1, 1), 5);
+        due("AGE of a PIECE", x.pieceOf(1, 2), 6);
+        PatchesSameAge other = told("r1234;");
+        other.image();
+        tell(other, "r5678;y09;");
+        other.restore();
+        other.piece(4, 3, 21);
+        other.restore();
+        due("a PIECE of the image", other.pieceOf(0, 2), 34);
+        due("no more", other.pieceOf(1, 0), -1);
         due("AGE", x.cellOf(5, 2), 45);
         due("WEAR", x.cellOf(5, 3), 45);
         due("the ROW stays", x.count(7), 1);
