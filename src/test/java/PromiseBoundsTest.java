@@ -455,6 +455,21 @@ public final class PromiseBoundsTest {
         due("WEAR", x.cellOf(0, 3), 0);
     }
 
+    private static void promise11BackOfEightBehindOneRefused() {
+        for (int before = 0; before < 8; before++) {
+            PatchesSameAge x = fresh();
+            for (int i = 0; i < before; i++) x.wears(1, i);
+            x.piece(0, 0, 0);
+            due("of none", x.back(), -3);
+            for (int i = 1; i <= 9; i++) x.wears(0, i);
+            for (int i = 8; i >= 1; i--) {
+                due("back", x.back(), i - 1);
+                due("WEAR", x.cellOf(0, 3), i);
+            }
+            due("of none", x.back(), -3);
+        }
+    }
+
     // ---- Promise 12: behind
 
     private static void promise12BehindNoYearsAndSixty() {
