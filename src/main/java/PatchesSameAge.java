@@ -929,6 +929,7 @@ public final class PatchesSameAge {
                     return 2 * cloth;
                 case CORN:
                     return Math.max(0, 2 * cloth - figure[cell]);
+                case CLOTH:
                 default:
                     return cloth;
             }
@@ -1113,8 +1114,8 @@ public final class PatchesSameAge {
     }
 
     /**
-     * What can be TAKEN BACK, the latest ahead of next. Of the ROLL it keeps what is used alone: what changes more of it
-     * leaves nothing to take back.
+     * What can be TAKEN BACK, the latest ahead of next. Of the ROLL it keeps what is used alone: what changes more of
+     * it leaves nothing to take back.
      */
     private static final class Past {
         private final Cloth[] cloth = new Cloth[BACK_STEPS];
@@ -1211,8 +1212,8 @@ public final class PatchesSameAge {
     }
 
     /**
-     * All ways of putting the PIECES not used (three at most) on unlike CELLS. A way's number has a digit to the base of
-     * CELLS for each PIECE, so that the least number is the first way.
+     * All ways of putting the PIECES not used (three at most) on unlike CELLS. A way's number has a digit to the base
+     * of CELLS for each PIECE, so that the least number is the first way.
      */
     private static final class Ways {
         private final int[] piece = new int[WAY_PIECES];

@@ -174,7 +174,9 @@ public final class AgainstModelTest {
         }
     }
 
+    /** Behind the last call that the document promises none is made, wherever it falls. */
     private String both(String name, Object... numbers) throws Exception {
+        if (calls == CALLS) return null;
         calls++;
         long got = ((Number) onProgram.get(name).invoke(program, numbers)).longValue();
         long want = ((Number) onModel.get(name).invoke(model, numbers)).longValue();

@@ -1,11 +1,15 @@
 import java.lang.reflect.Field;
+import java.lang.reflect.InvocationTargetException;
 import java.lang.reflect.Method;
 import java.lang.reflect.Modifier;
 import java.nio.charset.StandardCharsets;
 import java.nio.file.Files;
 import java.nio.file.Path;
 import java.util.ArrayList;
+import java.util.Arrays;
+import java.util.Comparator;
 import java.util.List;
+import java.util.Random;
 import java.util.Set;
 import java.util.TreeSet;
 import java.util.regex.Matcher;
@@ -26,6 +30,7 @@ public final class LanguageTest {
         face();
         members();
         text();
+        noCallThrows();
         CHECK.end();
     }
 
@@ -100,5 +105,34 @@ public final class LanguageTest {
                 start = -1;
             }
         }
+    }
+
+    /** One object far past its 512 calls, numbers of every size: what is answered then is free, that it answers is not. */
+    private static void noCallThrows() throws Exception {
+        Random random = new Random(1);
+        List<Method> calls = new ArrayList<>();
+        for (Method method : PatchesSameAge.class.getDeclaredMethods()) {
+            if (Modifier.isPublic(method.getModifiers())) calls.add(method);
+        }
+        calls.sort(Comparator.comparing(Method::getName));
+        PatchesSameAge x = new PatchesSameAge();
+        for (int i = 0; i < 30000; i++) {
+            Method call = calls.get(random.nextInt(calls.size()));
+            Object[] numbers = new Object[call.getParameterCount()];
+            for (int k = 0; k < numbers.length; k++) numbers[k] = anyNumber(random);
+            try {
+                call.invoke(x, numbers);
+            } catch (InvocationTargetException thrown) {
+                CHECK.due(call.getName() + Arrays.toString(numbers) + " threw " + thrown.getCause(), 1, 0);
+            }
+        }
+    }
+
+    private static int anyNumber(Random random) {
+        int[] ends = {Integer.MIN_VALUE, Integer.MAX_VALUE, -1, 256};
+        int which = random.nextInt(10);
+        if (which < 6) return random.nextInt(6);
+        if (which < 8) return random.nextInt(120);
+        return which == 8 ? random.nextInt() : ends[random.nextInt(ends.length)];
     }
 }
